@@ -670,7 +670,7 @@ public final class TagTower {
      */
     private static final class Bits {
         /** One more than whole letters have room: the first of them may be gone but for a bit. */
-        private final LetterRow row = new LetterRow(BITS_MOST / LETTERS + 2);
+        private final LetterRow row = new LetterRow(BITS_MOST / LETTERS + 1);
         private int turn;
 
         int layWord(LetterRow word) {

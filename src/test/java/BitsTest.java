@@ -11,7 +11,9 @@ public final class BitsTest {
         cycleEdges();
         turnsAreTags();
         cyclesToLimits();
-        firstLetterLast();
+        cyclesToTheVeryLimit();
+        cyclesWithinZeros();
+        spreadsAnew();
         standsStill();
         rulesLeaveTheBits();
         gathers();
@@ -206,28 +208,71 @@ public final class BitsTest {
         Due.is("too many letters", x.gather(), TagTower.FULL);
     }
 
-    /** The last bit of the first letter is a 1: as much as there can be comes behind it. */
-    private static void firstLetterLast() {
+    /** Letters that grow by two each, then one that comes to just 80000 bits. */
+    private static void cyclesToTheVeryLimit() {
+        TagTower x = grownBy(29, "A5");
+        Due.is("29 turns and the bits to the one", x.cycle(29 * 242 + 101), 29 * 242 + 101);
+        bitsAre(x, 658 * 121 - 101, 101, 658, 0);
+        Due.is("to 80000 bits", x.cycle(1), 1);
+        bitsAre(x, 80000, 102, 661, 0);
+        Due.is("the last bit", x.bit(79999), 0);
+        Due.is("the last one", x.bit(79999 - 120), 1);
+        Due.is("behind it", x.bit(80000), TagTower.NONE);
+        Due.is("till it stands still", x.cycle(30000), 140);
+        bitsAre(x, 660 * 121, 0, 660, 1);
+
+        x = grownBy(30, "u4");
+        Due.is("to 80001 bits", x.cycle(30000), 30 * 242 + 100);
+        bitsAre(x, 660 * 121 - 100, 100, 660, 0);
+        Due.is("the bit that is not taken", x.bit(0), 1);
+        Due.is("cycle again", x.cycle(30000), 0);
+
+        x = grownBy(30, "B4");
+        Due.is("one letter has room", x.cycle(30000), 31 * 242);
+        bitsAre(x, 659 * 121, 0, 659, 1);
+    }
+
+    /** 600 letters: some whose step brings two more, a letter, else x; laid as bits. */
+    private static TagTower grownBy(int many, String last) {
         TagTower x = new TagTower();
-        x.rule(0, 0, 1, RIGHT, 0);
-        x.rule(2, 1, 0, RIGHT, 0);
-        x.place(0, 0, 298, 0);
-        x.lay();
-        x.spread();
-        Due.is("28 turns", x.cycle(28 * 242), 28 * 242);
-        bitsAre(x, 79376, 0, 656, 0);
-        Due.is("one turn more", x.cycle(242), 242);
-        bitsAre(x, 79618, 0, 658, 0);
-        x.clear();
-        for (int i = 0; i < 299; i++) {
-            x.add(2);
+        x.rule(2, 1, 1, RIGHT, 0);
+        x.rule(2, 0, 0, RIGHT, 0);
+        for (int i = 0; i < many; i++) {
+            Letters.addAll(x, "a5 x");
+        }
+        Letters.addAll(x, last);
+        while (x.length() < 600) {
             x.add(0);
         }
-        x.add(120);
-        x.add(0);
         x.spread();
-        Due.is("the bits are no more than 80000 ever", x.cycle(30000), 29 * 242 + 2);
-        bitsAre(x, 79616, 2, 658, 0);
+        return x;
+    }
+
+    private static void cyclesWithinZeros() {
+        TagTower x = new TagTower();
+        x.rule(2, 1, 0, RIGHT, 0);
+        Letters.addAll(x, "B5 u0");
+        x.spread();
+        Due.is("zeros", x.cycle(60), 60);
+        Due.is("zeros and the one", x.cycle(46), 46);
+        bitsAre(x, 242 - 106 + 121, 106, 2, 0);
+        Due.is("zeros of both letters", x.cycle(100), 100);
+        bitsAre(x, 242 - 206 + 121, 206, 1, 0);
+        Due.is("the one of the second", x.cycle(36), 36);
+        bitsAre(x, 121, 0, 1, 1);
+        Due.is("gather", x.gather(), 1);
+        Due.is("word", Letters.word(x), "S5");
+    }
+
+    private static void spreadsAnew() {
+        TagTower x = new TagTower();
+        x.rule(0, 0, 0, RIGHT, 0);
+        Letters.addAll(x, "A0 x B0 x");
+        x.spread();
+        Due.is("cycle", x.cycle(100), 100);
+        Due.is("spread", x.spread(), 484);
+        bitsAre(x, 484, 0, 4, 0);
+        Due.is("bit 1", x.bit(1), 1);
     }
 
     private static void standsStill() {
@@ -265,6 +310,7 @@ public final class BitsTest {
         bitsAre(x, 0, 0, 0, 1);
         Due.is("gather of nothing", x.gather(), 0);
         Due.is("length", x.length(), 0);
+        onesThatAreGone();
         Letters.addAll(x, "A0 x");
         x.rule(0, 0, 0, RIGHT, 0);
         x.spread();
@@ -272,6 +318,20 @@ public final class BitsTest {
         x.rule(0, 0, 1, RIGHT, 0);
         Due.is("the appendant is of the rule as it is", x.cycle(1), 1);
         bitsAre(x, 240 + 484, 2, 5, 0);
+    }
+
+    private static void onesThatAreGone() {
+        TagTower x = new TagTower();
+        x.rule(0, 0, 0, RIGHT, 0);
+        Letters.addAll(x, "A0 x");
+        x.spread();
+        Due.is("cycle", x.cycle(1), 1);
+        x.unrule(0, 0);
+        Due.is("cycle", x.cycle(120), 120);
+        bitsAre(x, 121, 121, 1, 0);
+        Due.is("cycle", x.cycle(1), 1);
+        bitsAre(x, 120, 122, 0, 0);
+        Due.is("cycle", x.cycle(30000), 120);
     }
 
     private static void gathers() {

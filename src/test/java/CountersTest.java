@@ -174,7 +174,9 @@ public final class CountersTest {
         Due.is("bad go", x.go(-1), TagTower.BAD);
         Due.is("bad go", x.go(25), TagTower.BAD);
         Due.is("bad goes leave the line", x.at(), 24);
-        Due.is("go", x.go(1), 24);
+        Due.is("go", x.go(0), 24);
+        Due.is("at", x.at(), 0);
+        Due.is("go", x.go(1), 0);
         x.line(STOP, 0, 0, 0);
         x.line(DOWN, 0, 2, 3);
         x.line(STOP, 0, 0, 0);

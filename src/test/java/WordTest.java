@@ -19,6 +19,7 @@ public final class WordTest {
     public static void main(String[] args) {
         newObject();
         productionsOfOnePair();
+        productionsOfOtherPairs();
         productionsOfEveryPair();
         productionEdges();
         lays();
@@ -29,6 +30,7 @@ public final class WordTest {
         tagsToLimits();
         nexts();
         nextsThatAreRefused();
+        nextsOfAllSteps();
         nextFollowsTheMachine();
         tellsPlaces();
         tellsNoPlaces();
@@ -73,6 +75,25 @@ public final class WordTest {
         x.rule(1, 0, 1, LEFT, 2);
         x.unrule(1, 0);
         productionsAre(x, WITHOUT_RULE);
+    }
+
+    /** A rule that comes or goes leaves the productions of the pairs beside it. */
+    private static void productionsOfOtherPairs() {
+        TagTower x = new TagTower();
+        x.rule(0, 1, 0, RIGHT, 0);
+        x.rule(1, 0, 0, LEFT, 2);
+        x.rule(1, 1, 0, RIGHT, 0);
+        productionsAre(x, LEFT_ZERO);
+        Due.is("the last of the pair ahead", Letters.production(x, Letters.number("u1")), "b0 x");
+        Due.is("the first of the pair behind", Letters.production(x, Letters.number("A3")), "C3 x");
+        x.unrule(1, 0);
+        productionsAre(x, WITHOUT_RULE);
+        Due.is("the last of the pair ahead", Letters.production(x, Letters.number("u1")), "b0 x");
+        Due.is("the first of the pair behind", Letters.production(x, Letters.number("A3")), "C3 x");
+        x.unrule(0, 1);
+        x.unrule(1, 1);
+        x.rule(1, 0, 0, LEFT, 2);
+        productionsAre(x, LEFT_ZERO);
     }
 
     private static void productionsOfEveryPair() {
@@ -266,6 +287,41 @@ public final class WordTest {
         Due.is("length", x.length(), 598);
         Due.is("told", x.told(2), 297);
         Due.is("two steps were done and undone", x.tag(20000), 2);
+    }
+
+    /** A word found by search: 20138 steps lead to the first place. */
+    private static TagTower longWay() {
+        TagTower x = new TagTower();
+        x.rule(0, 0, 0, RIGHT, 2);
+        x.rule(0, 1, 1, LEFT, 1);
+        x.rule(1, 0, 0, LEFT, 2);
+        x.rule(1, 1, 1, RIGHT, 1);
+        x.rule(2, 0, 1, RIGHT, 1);
+        x.rule(2, 1, 1, LEFT, 0);
+        addTwos(x, 101, 1);
+        addTwos(x, 102, 67);
+        addTwos(x, 105, 33);
+        addTwos(x, 5, 48);
+        return x;
+    }
+
+    private static void addTwos(TagTower x, int letter, int times) {
+        for (int i = 0; i < times; i++) {
+            x.add(letter);
+            x.add(0);
+        }
+    }
+
+    private static void nextsOfAllSteps() {
+        TagTower x = longWay();
+        Due.is("all steps are done ahead", x.next(), TagTower.STATE);
+        Due.is("tag", x.tag(137), 137);
+        String word = Letters.word(x);
+        Due.is("the place is one step too far", x.next(), TagTower.STATE);
+        Due.is("the word is as it was", Letters.word(x), word);
+        Due.is("tag", x.tag(1), 1);
+        Due.is("the last step leads to the place", x.next(), 20000);
+        Due.is("told", x.told(0) != TagTower.NONE ? 1 : 0, 1);
     }
 
     /** What leads from a place to the next one is what the machine does with it. */
