@@ -308,7 +308,7 @@ public final class TagTower {
         }
 
         private boolean doLine() {
-            if (now >= lines) {
+            if (outside(now, 0, lines - 1)) {
                 return false;
             }
             switch (ops[now]) {
@@ -712,7 +712,7 @@ public final class TagTower {
             int done = 0;
             while (done < most) {
                 int steps = take(most - done, productions);
-                if (steps == 0) {
+                if (steps <= 0) {
                     return done;
                 }
                 done += steps;

@@ -241,7 +241,7 @@ public final class BitsTest {
             Letters.addAll(x, "a5 x");
         }
         Letters.addAll(x, last);
-        while (x.length() < 600) {
+        for (int i = x.length(); i < 600; i++) {
             x.add(0);
         }
         x.spread();
