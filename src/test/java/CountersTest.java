@@ -1,30 +1,15 @@
-/** Promises 1 to 8. */
+/** Promises 2 to 8 in ordinary runs; CounterSentences has the edges. */
 public final class CountersTest {
     private static final int UP = 0, DOWN = 1, STOP = 2;
 
     public static void main(String[] args) {
-        newObject();
         lines();
-        linesThatAreBad();
-        linesThatAreFull();
         wipes();
-        sets();
         counts();
-        countsToLimits();
         stops();
         goes();
         apart();
         Due.end();
-    }
-
-    private static void newObject() {
-        TagTower x = new TagTower();
-        for (int r = 0; r < 4; r++) {
-            Due.is("new: counter", x.counter(r), 0);
-        }
-        Due.is("new: at", x.at(), 0);
-        Due.is("new: count", x.count(5000), 0);
-        Due.is("new: wipe", x.wipe(), 0);
     }
 
     private static void lines() {
@@ -38,36 +23,6 @@ public final class CountersTest {
         Due.is("at: the line for 0", x.at(), 24);
         Due.is("counter 3", x.counter(3), 1);
         Due.is("counter 0", x.counter(0), 0);
-    }
-
-    private static void linesThatAreBad() {
-        TagTower x = new TagTower();
-        int[][] bad = {
-            {-1, 0, 0, 0}, {3, 0, 0, 0}, {0, -1, 0, 0}, {0, 4, 0, 0}, {0, 0, -1, 0}, {0, 0, 25, 0},
-            {0, 0, 0, -1}, {0, 0, 0, 25}, {2, 4, 0, 0}, {2, 0, 25, 0}, {2, 0, 0, 25}, {1, 0, 0, 25},
-            {Integer.MAX_VALUE, 0, 0, 0}, {0, Integer.MIN_VALUE, 0, 0}, {0, 0, Integer.MAX_VALUE, 0},
-            {0, 0, 0, Integer.MIN_VALUE}
-        };
-        for (int[] b : bad) {
-            Due.is("bad line", x.line(b[0], b[1], b[2], b[3]), TagTower.BAD);
-        }
-        Due.is("bad lines are not kept", x.line(2, 3, 24, 24), 1);
-        Due.is("wipe", x.wipe(), 1);
-    }
-
-    private static void linesThatAreFull() {
-        TagTower x = new TagTower();
-        for (int i = 1; i <= 24; i++) {
-            Due.is("line", x.line(UP, 0, i, 0), i);
-        }
-        Due.is("line 25", x.line(UP, 1, 0, 0), TagTower.FULL);
-        Due.is("bad ahead of full", x.line(UP, 4, 0, 0), TagTower.BAD);
-        Due.is("all lines are done", x.count(5000), 24);
-        Due.is("at behind the last one", x.at(), 24);
-        Due.is("counter 0", x.counter(0), 24);
-        Due.is("counter 1", x.counter(1), 0);
-        Due.is("wipe", x.wipe(), 24);
-        Due.is("line again", x.line(UP, 0, 0, 0), 1);
     }
 
     private static void wipes() {
@@ -84,23 +39,6 @@ public final class CountersTest {
         x.go(7);
         Due.is("wipe without lines", x.wipe(), 0);
         Due.is("the line is 0 all the same", x.at(), 0);
-    }
-
-    private static void sets() {
-        TagTower x = new TagTower();
-        Due.is("set", x.set(0, 1000), 0);
-        Due.is("set", x.set(0, 5), 1000);
-        Due.is("set", x.set(3, 9), 0);
-        Due.is("bad r", x.set(-1, 0), TagTower.BAD);
-        Due.is("bad r", x.set(4, 0), TagTower.BAD);
-        Due.is("bad v", x.set(0, -1), TagTower.BAD);
-        Due.is("bad v", x.set(0, 1001), TagTower.BAD);
-        Due.is("counter", x.counter(0), 5);
-        Due.is("counter", x.counter(1), 0);
-        Due.is("counter", x.counter(3), 9);
-        Due.is("bad counter", x.counter(-1), TagTower.BAD);
-        Due.is("bad counter", x.counter(4), TagTower.BAD);
-        Due.is("bad counter", x.counter(Integer.MAX_VALUE), TagTower.BAD);
     }
 
     private static void counts() {
@@ -122,31 +60,6 @@ public final class CountersTest {
         Due.is("counter 0", x.counter(0), 0);
         Due.is("counter 1", x.counter(1), 3);
         Due.is("stands still", x.count(5000), 0);
-    }
-
-    private static void countsToLimits() {
-        TagTower x = new TagTower();
-        x.line(UP, 2, 0, 0);
-        x.set(2, 998);
-        Due.is("up to 1000", x.count(5000), 2);
-        Due.is("counter", x.counter(2), 1000);
-        Due.is("not above 1000", x.count(1), 0);
-        Due.is("at", x.at(), 0);
-        x.set(2, 0);
-        Due.is("up to 1000 from 0", x.count(5000), 1000);
-        x.wipe();
-        x.line(DOWN, 0, 0, 0);
-        Due.is("5000 at most", x.count(5000), 5000);
-        Due.is("counter", x.counter(0), 0);
-        x.wipe();
-        x.line(UP, 0, 1, 0);
-        x.line(UP, 1, 0, 0);
-        x.set(0, 999);
-        x.set(1, 1000);
-        Due.is("the other counter is full", x.count(10), 1);
-        Due.is("at the line not done", x.at(), 1);
-        Due.is("counter 0", x.counter(0), 1000);
-        Due.is("counter 1", x.counter(1), 1000);
     }
 
     private static void stops() {

@@ -24,15 +24,20 @@ final class Letters {
 
     static String production(TagTower x, int letter) {
         StringBuilder all = new StringBuilder();
-        for (int i = 0; x.production(letter, i) != TagTower.NONE && i < 10; i++) {
-            all.append(i == 0 ? "" : " ").append(name(x.production(letter, i)));
+        for (int i = 0; i < 10; i++) {
+            int one = x.production(letter, i);
+            if (one == TagTower.NONE) {
+                break;
+            }
+            all.append(i == 0 ? "" : " ").append(name(one));
         }
         return all.toString();
     }
 
     static String word(TagTower x) {
         StringBuilder all = new StringBuilder();
-        for (int i = 0; i < x.length(); i++) {
+        int length = x.length();
+        for (int i = 0; i < length; i++) {
             all.append(i == 0 ? "" : " ").append(name(x.letter(i)));
         }
         return all.toString();

@@ -1,18 +1,14 @@
-/** Promises 1 and 9 to 13. */
+/** Promises 9 to 13 in ordinary runs; MachineSentences has the edges. */
 public final class MachineTest {
     private static final int LEFT = 0, RIGHT = 1;
 
     public static void main(String[] args) {
-        newObject();
         rules();
-        badRules();
         unrules();
         places();
         movesRight();
         movesLeft();
-        movesToLimits();
         movesLong();
-        badWhere();
         Due.end();
     }
 
@@ -20,16 +16,6 @@ public final class MachineTest {
         int[] want = {q, s, m, n, still};
         for (int what = 0; what < 5; what++) {
             Due.is("where(" + what + ")", x.where(what), want[what]);
-        }
-    }
-
-    private static void newObject() {
-        TagTower x = new TagTower();
-        placeIs(x, 0, 0, 0, 0, 1);
-        Due.is("new: move", x.move(5000), 0);
-        for (int q = 0; q < 3; q++) {
-            Due.is("new: unrule", x.unrule(q, 0), 0);
-            Due.is("new: unrule", x.unrule(q, 1), 0);
         }
     }
 
@@ -47,21 +33,6 @@ public final class MachineTest {
         x.place(1, 1, 2, 1);
         Due.is("the last rule told holds", x.move(1), 1);
         placeIs(x, 0, 0, 1, 3, 0);
-    }
-
-    private static void badRules() {
-        TagTower x = new TagTower();
-        int[][] bad = {
-            {-1, 0, 0, 0, 0}, {3, 0, 0, 0, 0}, {0, -1, 0, 0, 0}, {0, 2, 0, 0, 0}, {0, 0, -1, 0, 0},
-            {0, 0, 2, 0, 0}, {0, 0, 0, -1, 0}, {0, 0, 0, 2, 0}, {0, 0, 0, 0, -1}, {0, 0, 0, 0, 3},
-            {Integer.MAX_VALUE, 0, 0, 0, 0}, {0, Integer.MIN_VALUE, 0, 0, 0}
-        };
-        for (int[] b : bad) {
-            Due.is("bad rule", x.rule(b[0], b[1], b[2], b[3], b[4]), TagTower.BAD);
-        }
-        Due.is("bad rules are none", x.where(4), 1);
-        Due.is("bad rules have no productions", x.production(1, 0), TagTower.NONE);
-        Due.is("rule", x.rule(2, 1, 1, RIGHT, 2), 1);
     }
 
     private static void unrules() {
@@ -128,33 +99,6 @@ public final class MachineTest {
         placeIs(x, 2, 1, 2, 22, 1);
     }
 
-    private static void movesToLimits() {
-        TagTower x = new TagTower();
-        x.rule(0, 0, 0, RIGHT, 0);
-        x.rule(0, 1, 1, RIGHT, 0);
-        x.place(0, 0, 50000, 1);
-        Due.is("to 100000", x.move(1), 1);
-        placeIs(x, 0, 1, 100000, 0, 0);
-        Due.is("above 100000", x.move(1), 0);
-        placeIs(x, 0, 1, 100000, 0, 0);
-        x.place(0, 1, 50000, 0);
-        Due.is("to 100001", x.move(1), 0);
-        placeIs(x, 0, 1, 50000, 0, 0);
-        x.rule(1, 0, 0, LEFT, 1);
-        x.rule(1, 1, 1, LEFT, 1);
-        x.place(1, 0, 1, 50000);
-        Due.is("to 100000", x.move(1), 1);
-        placeIs(x, 1, 1, 0, 100000, 0);
-        Due.is("above 100000", x.move(5000), 0);
-        placeIs(x, 1, 1, 0, 100000, 0);
-        x.place(1, 1, 100000, 50000);
-        Due.is("to 100001", x.move(1), 0);
-        placeIs(x, 1, 1, 100000, 50000, 0);
-        x.place(1, 1, 100000, 49999);
-        Due.is("to 99999, the other one is halved", x.move(1), 1);
-        placeIs(x, 1, 0, 50000, 99999, 0);
-    }
-
     private static void movesLong() {
         TagTower x = new TagTower();
         x.rule(0, 0, 0, RIGHT, 0);
@@ -165,12 +109,5 @@ public final class MachineTest {
         x.rule(0, 1, 1, RIGHT, 2);
         Due.is("three moves", x.move(3), 3);
         placeIs(x, 2, 0, 1, 0, 1);
-    }
-
-    private static void badWhere() {
-        TagTower x = new TagTower();
-        Due.is("bad where", x.where(-1), TagTower.BAD);
-        Due.is("bad where", x.where(5), TagTower.BAD);
-        Due.is("bad where", x.where(Integer.MIN_VALUE), TagTower.BAD);
     }
 }

@@ -1,4 +1,4 @@
-/** Promises 1 and 14 to 22. */
+/** Promises 14 to 22 in ordinary runs; WordSentences has the edges. */
 public final class WordTest {
     private static final int LEFT = 0, RIGHT = 1;
     private static final String RIGHT_ZERO =
@@ -17,35 +17,16 @@ public final class WordTest {
         "A2=|a2=|P2=|p2=|B2=|b2=|Q2=B2 x|q2=b2 x|C2=|c2=|D2=|E2=|d2=|e2=|S2=|s2=|T2=|U2=|t2=|u2=";
 
     public static void main(String[] args) {
-        newObject();
         productionsOfOnePair();
         productionsOfOtherPairs();
         productionsOfEveryPair();
-        productionEdges();
         lays();
-        laysToLimits();
-        adds();
-        clears();
         tags();
-        tagsToLimits();
         nexts();
-        nextsThatAreRefused();
-        nextsOfAllSteps();
         nextFollowsTheMachine();
         tellsPlaces();
-        tellsNoPlaces();
         rulesLeaveTheWord();
         Due.end();
-    }
-
-    private static void newObject() {
-        TagTower x = new TagTower();
-        Due.is("new: length", x.length(), 0);
-        Due.is("new: letter", x.letter(0), TagTower.NONE);
-        Due.is("new: clear", x.clear(), 0);
-        Due.is("new: told", x.told(0), TagTower.NONE);
-        Due.is("new: tag", x.tag(20000), 0);
-        Due.is("new: next", x.next(), TagTower.STATE);
     }
 
     private static void productionsAre(TagTower x, String table) {
@@ -115,25 +96,6 @@ public final class WordTest {
         }
     }
 
-    private static void productionEdges() {
-        TagTower x = new TagTower();
-        x.rule(0, 0, 1, RIGHT, 0);
-        Due.is("x has none", x.production(0, 0), TagTower.NONE);
-        Due.is("letter 3 of four", x.production(1, 3), 0);
-        Due.is("letter 4 of four", x.production(1, 4), TagTower.NONE);
-        Due.is("letter -1", x.production(1, -1), TagTower.NONE);
-        Due.is("the last letter there can be", x.production(1, Integer.MAX_VALUE), TagTower.NONE);
-        Due.is("the first letter there can be", x.production(1, Integer.MIN_VALUE), TagTower.NONE);
-        Due.is("bad letter", x.production(-1, 0), TagTower.BAD);
-        Due.is("bad letter", x.production(121, 0), TagTower.BAD);
-        Due.is("bad letter ahead of none", x.production(121, -1), TagTower.BAD);
-        Due.is("the last letter", x.production(120, 0), TagTower.NONE);
-        x.rule(2, 1, 0, RIGHT, 2);
-        Due.is("the last letter", x.production(120, 0), 86);
-        Due.is("one letter", x.production(105, 0), 115);
-        Due.is("one letter", x.production(105, 1), TagTower.NONE);
-    }
-
     private static void lays() {
         TagTower x = new TagTower();
         Due.is("lay", x.lay(), 4);
@@ -150,55 +112,6 @@ public final class WordTest {
         Due.is("letter(max)", x.letter(Integer.MAX_VALUE), TagTower.NONE);
         Due.is("letter(min)", x.letter(Integer.MIN_VALUE), TagTower.NONE);
         Due.is("the machine is as it was", x.where(3), 3);
-    }
-
-    private static void laysToLimits() {
-        TagTower x = new TagTower();
-        x.place(0, 1, 100, 198);
-        Due.is("lay 600", x.lay(), 600);
-        Due.is("told m", x.told(2), 100);
-        Due.is("told n", x.told(3), 198);
-        x.place(0, 1, 100, 199);
-        Due.is("lay 602", x.lay(), TagTower.FULL);
-        x.place(0, 1, 100000, 100000);
-        Due.is("lay very many", x.lay(), TagTower.FULL);
-        Due.is("the word is as it was", x.length(), 600);
-        Due.is("the word is as it was", x.told(3), 198);
-        x.place(0, 0, 0, 298);
-        Due.is("lay 600", x.lay(), 600);
-        Due.is("letter 599", x.letter(599), 0);
-        Due.is("letter 598", x.letter(598), 6);
-        Due.is("letter 600", x.letter(600), TagTower.NONE);
-    }
-
-    private static void adds() {
-        TagTower x = new TagTower();
-        Due.is("add", x.add(120), 1);
-        Due.is("add", x.add(0), 2);
-        Due.is("bad add", x.add(-1), TagTower.BAD);
-        Due.is("bad add", x.add(121), TagTower.BAD);
-        Due.is("word", Letters.word(x), "u5 x");
-        x.place(0, 0, 297, 0);
-        x.lay();
-        Due.is("add", x.add(7), 599);
-        Due.is("add", x.add(8), 600);
-        Due.is("add to the full", x.add(9), TagTower.FULL);
-        Due.is("bad ahead of full", x.add(121), TagTower.BAD);
-        Due.is("length", x.length(), 600);
-        Due.is("letter 599", x.letter(599), 8);
-    }
-
-    private static void clears() {
-        TagTower x = new TagTower();
-        x.place(0, 0, 1, 1);
-        x.lay();
-        Due.is("clear", x.clear(), 8);
-        Due.is("length", x.length(), 0);
-        Due.is("letter", x.letter(0), TagTower.NONE);
-        Due.is("clear", x.clear(), 0);
-        Due.is("add", x.add(3), 1);
-        Due.is("letter", x.letter(0), 3);
-        Due.is("the machine is as it was", x.where(2), 1);
     }
 
     private static void tags() {
@@ -233,23 +146,6 @@ public final class WordTest {
         Due.is("word", Letters.word(x), "C1 x");
     }
 
-    private static void tagsToLimits() {
-        TagTower x = new TagTower();
-        x.rule(0, 0, 0, RIGHT, 0);
-        x.place(0, 0, 297, 0);
-        x.lay();
-        Due.is("598 letters: to 600 and no more", x.tag(20000), 2);
-        Due.is("length", x.length(), 600);
-        Due.is("first", x.letter(0), 2);
-        Due.is("last but one", x.letter(598), 10);
-        Due.is("last", x.letter(599), 0);
-        x.place(0, 0, 296, 0);
-        x.lay();
-        x.add(1);
-        Due.is("597 letters: to 599 and no more", x.tag(20000), 2);
-        Due.is("length", x.length(), 599);
-    }
-
     private static void nexts() {
         TagTower x = new TagTower();
         x.rule(0, 0, 1, RIGHT, 1);
@@ -264,64 +160,6 @@ public final class WordTest {
         Due.is("a word that becomes a place", x.next(), 1);
         Due.is("word", Letters.word(x), "A0 x B0 x");
         Due.is("one step at least", x.next() != 0 ? 1 : 0, 1);
-    }
-
-    private static void nextsThatAreRefused() {
-        TagTower x = new TagTower();
-        x.rule(0, 1, 0, RIGHT, 0);
-        Letters.addAll(x, "A1 x");
-        Due.is("all steps are done", x.next(), TagTower.STATE);
-        Due.is("word", Letters.word(x), "A1 x");
-        x.rule(0, 0, 0, RIGHT, 0);
-        x.clear();
-        Letters.addAll(x, "A0 x x A0");
-        Due.is("it comes to stand still", x.next(), TagTower.STATE);
-        Due.is("word", Letters.word(x), "A0 x x A0");
-        x.clear();
-        x.add(1);
-        Due.is("one letter", x.next(), TagTower.STATE);
-        Due.is("word", Letters.word(x), "A0");
-        x.place(0, 0, 297, 0);
-        x.lay();
-        Due.is("it would have too many", x.next(), TagTower.STATE);
-        Due.is("length", x.length(), 598);
-        Due.is("told", x.told(2), 297);
-        Due.is("two steps were done and undone", x.tag(20000), 2);
-    }
-
-    /** A word found by search: 20138 steps lead to the first place. */
-    private static TagTower longWay() {
-        TagTower x = new TagTower();
-        x.rule(0, 0, 0, RIGHT, 2);
-        x.rule(0, 1, 1, LEFT, 1);
-        x.rule(1, 0, 0, LEFT, 2);
-        x.rule(1, 1, 1, RIGHT, 1);
-        x.rule(2, 0, 1, RIGHT, 1);
-        x.rule(2, 1, 1, LEFT, 0);
-        addTwos(x, 101, 1);
-        addTwos(x, 102, 67);
-        addTwos(x, 105, 33);
-        addTwos(x, 5, 48);
-        return x;
-    }
-
-    private static void addTwos(TagTower x, int letter, int times) {
-        for (int i = 0; i < times; i++) {
-            x.add(letter);
-            x.add(0);
-        }
-    }
-
-    private static void nextsOfAllSteps() {
-        TagTower x = longWay();
-        Due.is("all steps are done ahead", x.next(), TagTower.STATE);
-        Due.is("tag", x.tag(137), 137);
-        String word = Letters.word(x);
-        Due.is("the place is one step too far", x.next(), TagTower.STATE);
-        Due.is("the word is as it was", Letters.word(x), word);
-        Due.is("tag", x.tag(1), 1);
-        Due.is("the last step leads to the place", x.next(), 20000);
-        Due.is("told", x.told(0) != TagTower.NONE ? 1 : 0, 1);
     }
 
     /** What leads from a place to the next one is what the machine does with it. */
@@ -365,21 +203,6 @@ public final class WordTest {
         x.clear();
         Letters.addAll(x, "A2 x a2 x B2 x");
         toldIs(x, 1, 0, 1, 0);
-    }
-
-    private static void tellsNoPlaces() {
-        String[] words = {
-            "A0", "A0 x", "A0 x B0", "x A0 x B0", "a0 x B0 x", "A0 x B1 x", "A0 x a1 x B0 x",
-            "A0 x B0 x b1 x", "A0 x B0 x b0", "A0 x B0 x a0 x", "A0 x b0 x B0 x", "A0 x a0 x",
-            "A0 x a0 x b0 x", "A0 A0 B0 x", "A0 x B0 B0", "A0 x a0 a0 B0 x", "A0 x B0 x b0 b0",
-            "A0 x B0 x x", "A0 x B0 x x x", "A0 x B0 x b0 x b0", "A0 x B0 x B0 x", "B0 x A0 x",
-            "A0 x A0 x B0 x", "x x x x", "A0 x a0 B0 x x", "C0 x B0 x"
-        };
-        for (String word : words) {
-            TagTower x = new TagTower();
-            Letters.addAll(x, word);
-            toldIs(x, TagTower.NONE, TagTower.NONE, TagTower.NONE, TagTower.NONE);
-        }
     }
 
     private static void rulesLeaveTheWord() {
