@@ -1,6 +1,7 @@
-/** Every sentence of the terms and the promises, each with a test of its own. */
+/** Every sentence of the document, each with a test of its own. */
 public final class SentencesTest {
     public static void main(String[] args) {
+        AheadSentences.all();
         CounterSentences.all();
         MachineSentences.all();
         WordSentences.all();
